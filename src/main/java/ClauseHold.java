@@ -518,7 +518,7 @@ public final class ClauseHold {
         }
     }
 
-    /** A clause, a parity row or a bound row; what is on the trail comes as the bits of the true and false variables. */
+    /** A clause, a parity row or a bound row; the trail comes to it as the bits of the true and the false variables. */
     private static final class Constraint {
         final int number;
         final char kind;
@@ -1320,7 +1320,10 @@ public final class ClauseHold {
             learnt.spread = learner.spread;
             learntEver++;
             spreadsEver += learnt.spread;
-            lastSpreads[Math.floorMod(learntHere, LAST_SPREADS)] = learnt.spread;
+            int slot = Math.floorMod(learntHere, LAST_SPREADS);
+            if (slot < lastSpreads.length) {
+                lastSpreads[slot] = learnt.spread;
+            }
             learntHere++;
             spreadsHere += learnt.spread;
             sinceRestart++;
@@ -1342,8 +1345,8 @@ public final class ClauseHold {
             Constraint worst = null;
             for (int i = 0; i < book.held.size(); i++) {
                 Constraint row = book.held.get(i);
-                boolean canGo = row.kind == 'l' && row != justLearnt && row.spread > SMALL_SPREAD && !trail.leansOn(row);
-                if (canGo && (worst == null || isWorse(row, worst))) {
+                boolean isOld = row.kind == 'l' && row != justLearnt && !trail.leansOn(row);
+                if (isOld && row.spread > SMALL_SPREAD && (worst == null || isWorse(row, worst))) {
                     worst = row;
                 }
             }
