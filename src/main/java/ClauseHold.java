@@ -44,11 +44,12 @@ public final class ClauseHold {
     private int lastCore;
 
     public ClauseHold() {
+        Book shared = new Book();
         typed = new IntRow();
         assumed = new IntRow();
-        book = new Book();
-        shelf = new Shelf(book);
-        search = new Search(book);
+        book = shared;
+        shelf = new Shelf(shared);
+        search = new Search(shared);
         spare = new Trail();
         trial = new Trial();
         text = new StringBuilder();
@@ -1261,9 +1262,10 @@ public final class ClauseHold {
         private int sinceRestart;
 
         Search(Book book) {
+            Trail shared = new Trail();
             this.book = book;
-            trail = new Trail();
-            learner = new Learner(trail);
+            trail = shared;
+            learner = new Learner(shared);
             lastSpreads = new int[LAST_SPREADS];
             found = 0;
             conflictCount = 0;

@@ -10,12 +10,13 @@ public final class PromiseRuns {
         Object now();
     }
 
-    /** What a call answers, or throws. */
+    /** What a call answers, or throws; what the machine or the library throws by itself is told apart. */
     private static String of(Call call) {
         try {
             return "" + call.now();
         } catch (RuntimeException e) {
-            return e.getClass().getSimpleName();
+            boolean isOwn = e.getStackTrace()[0].getClassName().equals("ClauseHold");
+            return (isOwn ? "" : "the machine's ") + e.getClass().getSimpleName();
         }
     }
 
@@ -130,6 +131,7 @@ public final class PromiseRuns {
         eliminatingRefused();
         eliminatingHundred();
         eliminatingOneMore();
+        eliminatingBesideLearnt();
         bringingBack();
         bringingBackChains();
         bringingBackInFrames();
@@ -139,6 +141,9 @@ public final class PromiseRuns {
         learning();
         leavingOut();
         framesOfLevelZero();
+        framesOfWhatIsLeftOut();
+        framesOfOneConflictAlone();
+        restarting();
         usingUpTheBudget();
         parityReasons();
         boundReasons();
@@ -516,6 +521,25 @@ public final class PromiseRuns {
         due("p41 a model", x::isModel, true);
     }
 
+    private static void eliminatingBesideLearnt() {
+        ClauseHold x = with(11);
+        clause(x, 1, 2);
+        for (int i = 0; i < 25; i++) {
+            clause(x, -1, 3);
+        }
+        clause(x, -3, 4);
+        clause(x, 8, 9);
+        clause(x, 8, 10);
+        clause(x, -9, -10, 7);
+        for (int i = 0; i < 20; i++) {
+            clause(x, 11);
+        }
+        due("p13 answer", () -> x.solve(1), '?');
+        due("p44 learnt", () -> written(x, 50), "8 7");
+        due("p18 one with many", () -> x.eliminate(0), 25);
+        due("p18 learnt clauses do not count to the hundred", () -> x.eliminate(2), 25);
+    }
+
     private static void bringingBack() {
         ClauseHold x = with(4);
         clause(x, 1, 2);
@@ -724,6 +748,81 @@ public final class PromiseRuns {
         due("p27 the level 0 is no use", () -> "" + x.usesOf(3) + x.usesOf(4), "00");
         due("p9 what is of frame 2", x::pop, 1);
         due("p9 what is of frame 1", x::pop, 2);
+    }
+
+    /** -3 is left out, as 1 3 -6 put 3, and -6 is of the level 0, where 6 of frame 1 was put. */
+    private static void framesOfWhatIsLeftOut() {
+        ClauseHold x = with(6);
+        clause(x, 2, 4);
+        clause(x, 2, 5);
+        clause(x, -4, -5, -3, 1);
+        clause(x, 1, 3, -6);
+        x.push();
+        clause(x, 6);
+        due("p13 answer", () -> x.solve(1), '?');
+        due("p44 learnt", () -> written(x, 5), "2 1");
+        due("p25 the frame of what put 6", () -> x.frameOf(5), 1);
+    }
+
+    /** The first conflict leaves out -6, which frame 1 put at the level 0; the second one has nothing to do with it. */
+    private static void framesOfOneConflictAlone() {
+        ClauseHold x = with(10);
+        clause(x, 2, 4);
+        clause(x, 2, 5);
+        clause(x, -4, -5, -6, 1);
+        clause(x, 8, 9);
+        clause(x, 8, 10);
+        clause(x, -9, -10, 7);
+        x.push();
+        clause(x, 6);
+        due("p13 answer", () -> x.solve(2), '?');
+        due("p44 first learnt", () -> written(x, 7), "2 1");
+        due("p25 first learnt", () -> x.frameOf(7), 1);
+        due("p44 second learnt", () -> written(x, 8), "8 7");
+        due("p25 second learnt", () -> x.frameOf(8), 0);
+    }
+
+    /**
+     * Three conflicts, with the spreads 2, 2 and 3: together 7, and their mean is rounded down to 2. Behind the
+     * third one there is a restart, from which -1, -9, 11, -5, 7 and 3 are decided, by activity.
+     */
+    private static void restarting() {
+        ClauseHold x = with(12);
+        clause(x, 2, 3);
+        clause(x, 2, 4);
+        clause(x, -3, -4, 1);
+        clause(x, 6, 7);
+        clause(x, 6, 8);
+        clause(x, -7, -8, 5);
+        clause(x, 10, 11);
+        clause(x, 10, 12);
+        clause(x, -11, -12, 9, 1);
+        due("p13 answer", () -> x.solve(200), 'y');
+        due("p44 first learnt", () -> written(x, 9), "2 1");
+        due("p44 second learnt", () -> written(x, 10), "6 5");
+        due("p44 third learnt", () -> written(x, 11), "10 9 1");
+        due("p26 spreads", () -> "" + x.spreadOf(9) + x.spreadOf(10) + x.spreadOf(11), "223");
+        due("p30 conflicts", x::conflicts, 3);
+        due("p32 restarts", x::restarts, 1);
+        due("p31 decisions", x::decisions, 14);
+        due("p34 put", x::put, 16);
+        due("p35 meanSpread", x::meanSpread, 7.0 / 3.0);
+        due("p36 learntShare", x::learntShare, 3.0f / 12.0f);
+        due("p28 activities", () -> activities(x, 12), "99 43 43 43 49 49 49 49 56 56 56 56");
+        due("p15 values", () -> values(x, 12), "011001100110");
+        due("p33 none forgotten", x::forgotten, 0);
+        ClauseHold y = with(12);
+        clause(y, 2, 3);
+        clause(y, 2, 4);
+        clause(y, -3, -4, 1);
+        clause(y, 6, 7);
+        clause(y, 6, 8);
+        clause(y, -7, -8, 5);
+        clause(y, 10, 11);
+        clause(y, 10, 12);
+        clause(y, -11, -12, 9, 1);
+        due("p13 the budget is used up", () -> y.solve(3), '?');
+        due("p32 no restart with the answer '?'", y::restarts, 0);
     }
 
     private static void usingUpTheBudget() {

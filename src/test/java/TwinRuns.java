@@ -279,7 +279,8 @@ public final class TwinRuns {
         try {
             return textOf(call, a, b);
         } catch (RuntimeException e) {
-            return "throws." + e.getClass().getSimpleName();
+            boolean isOwn = e.getStackTrace()[0].getClassName().equals("ClauseHold");
+            return (isOwn ? "throws." : "the machine throws.") + e.getClass().getSimpleName();
         }
     }
 
