@@ -281,7 +281,9 @@ public final class CallEdgeRuns {
 
     private static void valuesGrowOld() {
         Edges.run("P15 a variable that was added since", MET, "addVariable() = 5", "valueOf(5) = " + Edges.ELEMENT,
-            "valueOf(4) = false", "valueOf(6) = " + Edges.INDEX, "solve(9) = y", "valueOf(5) = false");
+            "valueOf(4) = false", "valueOf(6) = " + Edges.INDEX, "addVariable() = 6",
+            "valueOf(5) = " + Edges.ELEMENT, "valueOf(6) = " + Edges.ELEMENT, "valueOf(7) = " + Edges.INDEX,
+            "solve(9) = y", "valueOf(5) = false", "valueOf(6) = false");
         Edges.run("P15 the model stays until the next search", MET, "clause(-2) = 5", "valueOf(1) = true",
             "push() = 1", "clause(2) = 6", "valueOf(1) = true", "pop() = 1", "valueOf(1) = true", "solve(1) = y",
             "valueOf(1) = false", "values() = 10111");

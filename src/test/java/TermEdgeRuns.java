@@ -509,6 +509,9 @@ public final class TermEdgeRuns {
             "values() = 10", "isModel() = true");
         Edges.run("the one that went last first", "vars(2) clause(1,2) eliminate(1) eliminate(0)", "solve(1) = y",
             "values() = 01", "isModel() = true");
+        Edges.run("those that stay away when another one is brought back",
+            "vars(6) clause(1,2) clause(3,4) clause(5,6) eliminate(0) eliminate(2) eliminate(4) assume(-3)",
+            "away() = 100010", "solve(1) = y", "values() = 100110", "isModel() = true");
         Edges.run("one that was brought back and went again", "vars(2) clause(1,2) eliminate(0) eliminate(1)"
             + " assume(1) dropAssumptions() eliminate(1) eliminate(0)", "solve(1) = y", "values() = 01",
             "isModel() = true", "proof() = t0 d0 t0 d0");
