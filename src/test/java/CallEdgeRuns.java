@@ -353,6 +353,11 @@ public final class CallEdgeRuns {
         Edges.run("P18 assumed", "vars(3) assume(1) assume(-2)", "eliminate(0) = " + Edges.SUPPORT,
             "eliminate(1) = " + Edges.SUPPORT, "eliminate(2) = 0", "push() = 1", "eliminate(0) = " + Edges.STATE,
             "pop() = 0", "dropAssumptions() = 2", "eliminate(0) = 0", "eliminate(1) = 0");
+        Edges.run("P18 assumed twice", "vars(2) assume(1) assume(-1) assume(2) assume(2)",
+            "eliminate(0) = " + Edges.SUPPORT, "eliminate(1) = " + Edges.SUPPORT);
+        Edges.run("P18 in two rows", "vars(5) odd(-1,2) bound(5;1,3) even(4,3) odd(4,2)",
+            "eliminate(0) = " + Edges.SUPPORT, "eliminate(1) = " + Edges.SUPPORT, "eliminate(2) = " + Edges.SUPPORT,
+            "eliminate(3) = " + Edges.SUPPORT, "eliminate(4) = 0");
         Edges.run("P18 in a row", "vars(4) odd(-1,2) bound(5;3) clause(4,1)", "eliminate(0) = " + Edges.SUPPORT,
             "eliminate(1) = " + Edges.SUPPORT, "eliminate(2) = " + Edges.SUPPORT, "eliminate(3) = 0",
             "eliminate(4) = " + Edges.INDEX);
@@ -391,6 +396,13 @@ public final class CallEdgeRuns {
             "eliminate(4) = " + Edges.SUPPORT);
         Edges.run("P18 ninety-nine, and one more", most + " 20*clause(6) eliminate(0) eliminate(2)",
             "eliminate(4) = 1", "kindOf(99) = r", "written(99) = 6", "constraintAt(45) = 99");
+        // 50 told and the 5 6 -5 6 makes: the two that were kept aside and hold again are not two more
+        Edges.run("P18 a hundred, some of them brought back", most + " 20*clause(6) eliminate(4) assume(5)"
+            + " dropAssumptions() eliminate(0)", "constraints() = 49", "eliminate(2) = 25", "constraints() = 48",
+            "eliminate(4) = " + Edges.SUPPORT);
+        Edges.run("P18 a hundred beside a learnt one", most + " 19*clause(6) vars(2) pair(8;7) under(-7)"
+            + " eliminate(0)", "learnt() = 7", "constraints() = 50", "eliminate(2) = 25",
+            "eliminate(4) = " + Edges.SUPPORT);
     }
 
     // ---- promises 20 to 29
@@ -457,6 +469,9 @@ public final class CallEdgeRuns {
             "learntShare() = " + Edges.ARITHMETIC);
         Edges.run("P36 all are kept aside", "vars(2) clause(1,2)", "learntShare() = 0.0", "eliminate(0) = 0",
             "learntShare() = " + Edges.ARITHMETIC, "assume(1) = 1", "learntShare() = 0.0");
+        // 2 1 is learnt, and made of the other two again, when these are kept aside
+        Edges.run("P36 the lowest number is learnt", "vars(3) clause(1,2,3) clause(1,2,-3) solve(1)",
+            "learntShare() = 0.33333334", "eliminate(2) = 1", "kinds() = lr", "learntShare() = 0.5");
         Edges.run("P36 one of three", "vars(2) clause(1,2) clause(1,-2) solve(1)", "learntShare() = 0.33333334",
             "meanSpread() = 1.0");
     }
@@ -490,6 +505,13 @@ public final class CallEdgeRuns {
         Edges.run("P42 and P43 no variable", NEW, "answerByTrying() = y", "modelsByTrying() = 1");
         Edges.run("P42 and P43 twelve variables", "vars(12)", "answerByTrying() = y", "modelsByTrying() = 4096",
             "assume(12) = 1", "assume(-12) = 2", "answerByTrying() = n", "modelsByTrying() = 4096");
+        for (int variables = 1; variables <= 12; variables++) {
+            Edges.run("P43 all values of all variables", "vars(" + variables + ")",
+                "modelsByTrying() = " + (1 << variables), "clause(-" + variables + ") = 0",
+                "modelsByTrying() = " + (1 << variables - 1), "answerByTrying() = y", "even(1) = 1",
+                "modelsByTrying() = " + (variables == 1 ? 1 : 1 << variables - 2), "assume(" + variables + ") = 1",
+                "answerByTrying() = n");
+        }
         Edges.run("P43 one model", "vars(12) bound(0;1,2,3,4,5,6) bound(0;7,8,9,10,11,12)",
             "modelsByTrying() = 1", "answerByTrying() = y", "assume(-7) = 1", "answerByTrying() = y",
             "assume(1) = 2", "answerByTrying() = n", "modelsByTrying() = 1");

@@ -30,6 +30,7 @@ public final class TermEdgeRuns {
         decisionsByActivity();
         reasonsOfRows();
         learntOfOneLiteral();
+        oneOfThePresentLevel();
         literalsOfLevelZero();
         leftOutAtOnce();
         orderAndSpread();
@@ -213,6 +214,10 @@ public final class TermEdgeRuns {
         // 1 puts -3 by the row and this 2, so that the row is false: -1 -2; 2 goes for 3, this for -1 alone
         Edges.run("a bound row: what was true ahead of it", "vars(3) clause(3,2) bound(1;3,1,2) assume(1)",
             "solve(9) = n", "learnt() = -1", "uses() = 1 1 0", "spreads() = - - 1");
+        // with -4 ahead of 1 it is the same: what is false is not in the clause of a bound row
+        Edges.run("a bound row: nothing that was false", "vars(4) clause(3,2) bound(1;3,1,2,4) assume(-4) assume(1)",
+            "solve(9) = n", "learnt() = -1", "uses() = 1 1 0", "spreads() = - - 1",
+            "activities() = 56 56 56 0", "core() = 2", "put() = 3");
         // -1 and -2 put -3 by the row, this puts 4: 3 2 -4; 4 goes for 3 2, and 3 for 1 2, of which 1 is false
         Edges.run("a parity row: the false literal of each variable",
             "vars(4) odd(-1,2,3) pair(4;3,2) assume(-1) assume(-2)", "solve(9) = n", "learnt() = 2 1",
@@ -232,6 +237,18 @@ public final class TermEdgeRuns {
             "spreadOf(2) = 1", "decisions() = 8", "put() = 2", "values() = 00011");
     }
 
+    private static void oneOfThePresentLevel() {
+        // -1 puts 2, 3 and 4; -3 -4 goes on to -2 -3 and -2, and no more to the clause of 1 2, which put 2
+        Edges.run("no more than one literal of the present level", "vars(4) clause(1,2) clause(-2,3) clause(-2,4)"
+            + " clause(-3,-4)", "solve(9) = y", "learnt() = -2", "uses() = 0 1 1 1 0", "put() = 6",
+            "decisions() = 2", "values() = 1010", "activities() = 0 56 56 56");
+        // -2 puts 1 and 3; -1 -3 goes on to 2 -1, and this to 2
+        Edges.run("the first variable was put by a constraint", "vars(3) clause(1,2) clause(2,3) clause(-1,-3)"
+            + " assume(-2)", "solve(9) = n", "learnt() = 2", "uses() = 1 1 1 0", "core() = 1", "put() = 3");
+        Edges.run("the last one was", "vars(12) clause(12,2) clause(2,3) clause(-12,-3) assume(-2)",
+            "solve(9) = n", "learnt() = 2", "uses() = 1 1 1 0", "core() = 1", "put() = 3");
+    }
+
     private static void literalsOfLevelZero() {
         Edges.run("literals of the level 0 are not in the clause",
             "vars(3) clause(-3,1,2) clause(1,-2,-3) clause(3)", "solve(9) = y", "learnt() = 1",
@@ -245,6 +262,10 @@ public final class TermEdgeRuns {
         Edges.run("all at once", "vars(5) clause(-1,2) clause(-2,3) pair(5;-1,-2,-3,-4) assume(1) assume(4)",
             "solve(9) = n", "learnt() = -4 -1", "spreadOf(4) = 2", "uses() = 0 0 1 1 0",
             "activities() = 56 56 56 56 56");
+        Edges.run("the first variable", "vars(5) clause(-2,1) pair(5;-1,-2,-4) assume(2) assume(4)", "solve(9) = n",
+            "learnt() = -4 -2");
+        Edges.run("the last variable", "vars(12) clause(-2,12) pair(5;-12,-2,-4) assume(2) assume(4)",
+            "solve(9) = n", "learnt() = -4 -2");
         Edges.run("one that is not in the clause is enough to stay",
             "vars(6) clause(-1,-6,2) pair(5;-1,-2,-4) assume(1) assume(6) assume(4)", "solve(9) = n",
             "learnt() = -4 -2 -1", "spreadOf(3) = 3");
@@ -312,6 +333,23 @@ public final class TermEdgeRuns {
             "frames() = 0 0 0 1 1");
         Edges.run("what has nothing to do with it does not count", "vars(5) pair(3;-1,-2) push() clause(-1,4)"
             + " clause(5) under(1,2)", "learnt() = -2 -1", "frames() = 0 0 1 1 0", "pop() = 2", "kinds() = ccl");
+        Edges.run("what left a literal out leans on nothing of the level 0", "vars(6) pair(5;-1,-2,-4) clause(-1,2)"
+            + " push() clause(6) under(1,4)", "learnt() = -4 -1", "frames() = 0 0 0 1 0");
+        framesBesideOthers();
+    }
+
+    private static void framesBesideOthers() {
+        Edges.run("the conflict ahead of it does not count", "vars(6) pair(3;-1,-2) push() pair(6;-4,-5) under(4,5)"
+            + " under(1,2)", "learnt() = -5 -4, -2 -1", "frames() = 0 0 1 1 1 0", "pop() = 3");
+        Edges.run("nor the literals of the level 0 of that one", "vars(7) pair(3;-1,-2) pair(7;-4,-5,-6) push()"
+            + " clause(6) under(4,5) under(1,2)", "learnt() = -5 -4, -2 -1", "frames() = 0 0 0 0 1 1 0",
+            "pop() = 2");
+        Edges.run("of two that left literals out by the same literal of the level 0",
+            "vars(6) pair(5;-1,-2,-3,-4) clause(-1,-6,2) clause(-1,-6,3) push() clause(6) under(1,4)",
+            "learnt() = -4 -1", "frames() = 0 0 0 0 1 1", "pop() = 2");
+        // 1 and 2 are put at the level 0, 2 by the number 0, and both are left out of the conflict
+        Edges.run("of one that is left out, and put another one that is", "vars(4) clause(-1,2) pair(4;-1,-2,3)"
+            + " push() clause(1) solve(9)", "learnt() = 3", "frames() = 0 0 0 1 1", "pop() = 2");
     }
 
     // ---- restarts and forgetting
@@ -321,6 +359,11 @@ public final class TermEdgeRuns {
             "solve(200) = y", "conflicts() = 3", "spreads() = - - - - - - 2 2 2", "restarts() = 0");
         Edges.run("2, 2, 3: seven are", "vars(12) pair(3;1,2) pair(6;4,5) pair(10;7,8,9)", "solve(200) = y",
             "conflicts() = 3", "spreads() = - - - - - - 2 2 3", "restarts() = 1");
+        // the last conflict leaves -1 to -8; behind the restart -7, -8, 10, -4, 6, -1, 3, -11 and -12 are decided
+        Edges.run("all that was put above the level 0 leaves", "vars(12) pair(3;1,2) pair(6;4,5) pair(10;7,8,9)",
+            "solve(200) = y", "decisions() = 18", "put() = 8", "values() = 011011001100");
+        Edges.run("what was put at the level 0 stays", "vars(12) clause(12) pair(3;1,2) pair(6;4,5) pair(10;7,8,9)",
+            "solve(200) = y", "decisions() = 17", "put() = 9", "restarts() = 1", "values() = 011011001101");
         Edges.run("2, 3, 3: eight are", "vars(12) pair(3;1,2) pair(7;4,5,6) pair(11;8,9,10)", "solve(200) = y",
             "spreads() = - - - - - - 2 3 3", "restarts() = 1");
         Edges.run("3, 3, 3: nine are not greater than nine", "vars(12) pair(4;1,2,3) pair(8;5,6,7)"
@@ -343,6 +386,10 @@ public final class TermEdgeRuns {
             "conflicts() = 3", "restarts() = 0");
         Edges.run("the third one, but the second one of its search", script, "solve(1) = ?", "solve(200) = y",
             "conflicts() = 3", "restarts() = 0");
+        // 1 and 1, beside 3 of the search before, would be more than three times their mean
+        Edges.run("none of the search before counts", "vars(12) push() pair(4;1,2,3) pair(8;5,6,7) pair(12;9,10,11)"
+            + " solve(3) pop() pair(2;1) pair(6;5)", "conflicts() = 3", "solve(200) = y", "conflicts() = 5",
+            "spreads() = - - - - 1 1", "restarts() = 0");
         // the first search learns 3 and 3; the second one 2, 1 and 1, which are more than three times their mean
         Edges.run("the mean of this search alone", "vars(12) push() pair(4;1,2,3) pair(8;5,6,7) solve(200) pop()"
             + " pair(4;1,2) pair(10;9) pair(12;11)", "conflicts() = 2", "solve(200) = y", "conflicts() = 5",
@@ -478,6 +525,8 @@ public final class TermEdgeRuns {
             "proof() = t0 t1 t2 t3 t4 t5 d5 d4 d3 d2 d1 d0 t0 t1 t2 t3 t4 t5 t6");
         Edges.run("two of six", script, "bound(2;5,-2,7) = 6", "away() = 1011010",
             "proof() = t0 t1 t2 t3 t4 t5 d5 d4 d3 d2 d1 d0 t1 t4 t6", "held() = 1 4 6");
+        Edges.run("two clauses with the same one", "vars(3) clause(1,2,3) clause(1,2,-3) eliminate(0) eliminate(1)",
+            "assume(-1) = 1", "away() = 000", "proof() = t0 t1 d0 d1 t0 t1");
         Edges.run("none of six", script, "clause(7) = 6", "away() = 1111110", "held() = 6");
     }
 
@@ -504,6 +553,8 @@ public final class TermEdgeRuns {
     private static void modelsOfEliminated() {
         Edges.run("false, if no clause needs it", "vars(2) clause(-1,2) eliminate(0) eliminate(1)", "solve(1) = y",
             "values() = 00", "isModel() = true");
+        Edges.run("true, if several clauses need it", "vars(3) clause(1,2) clause(1,3) eliminate(0)", "solve(1) = y",
+            "values() = 100", "isModel() = true");
         // 2 went last and gets its value first: nothing needs it; then 1 2 needs 1
         Edges.run("the one that went last first", "vars(2) clause(1,2) eliminate(0) eliminate(1)", "solve(1) = y",
             "values() = 10", "isModel() = true");
