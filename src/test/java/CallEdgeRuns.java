@@ -18,6 +18,16 @@ public final class CallEdgeRuns {
     private static final String FULL = "vars(12) 41*clause(12,-11) push() 4*clause(9,8,7) push() 3*odd(1,2) push()"
         + " bound(1;3,4,5) push() clause(-1,6) assume(1) 2*assume(-2) assume(3) assume(-12) assume(12)"
         + " type(-1) type(2) type(-3) type(4) type(-5) type(6)";
+    /** Rows that no values meet; a search over them comes to more than 200 conflicts. */
+    private static final String HARD = "vars(12)"
+        + " bound(3;2,-12,-1,9,8,-11) bound(3;12,8,1,2,-6,7) bound(3;5,8,12,9,4,6) bound(3;1,-7,5,-2,12,-10)"
+        + " bound(3;-4,5,1,3,9,6) bound(3;-3,-1,-10,-7,-4,-12) odd(-3,-6,-11,-1,7,-8) odd(-3,9,-10,4,-5,-11)"
+        + " clause(-3,10,-5,-4,-12,11) bound(3;-2,7,-5,6,4,-11) even(-3,9,5,7,-11,-2) bound(3;3,6,-10,1,4,-12)"
+        + " clause(-1,-6,-12,11,-9,5) bound(3;-6,-4,1,-5,2,-11) odd(-2,-12,3,7,1,8) bound(3;-9,3,6,-11,-5,7)"
+        + " clause(8,-9,-6,10,7,2) bound(3;2,7,-4,5,3,8) clause(11,10,-7,-2,-3,12) odd(6,-7,9,-3,-12,-10)"
+        + " clause(7,2,5,-9,8,11) odd(12,8,-11,3,6,-1) clause(-2,8,11,9,1,4) bound(3;-2,5,-10,-11,-1,12)"
+        + " bound(3;-3,-6,-5,-7,4,11) bound(3;3,9,-8,5,1,10) clause(-9,-12,3,-2,7,-11) odd(2,12,-1,11,9,-8)"
+        + " even(2,-9,1,-5,-7,3) clause(8,7,-4,6,-2,-1)";
 
     private CallEdgeRuns() {
     }
@@ -264,6 +274,9 @@ public final class CallEdgeRuns {
         Edges.run("P13 the budget is used up ahead of the level 0", both, "solve(1) = ?", "conflicts() = 1",
             "solve(1) = n", "conflicts() = 1", "core() = 0");
         Edges.run("P13 the level 0 is reached", both, "solve(2) = n", "conflicts() = 1");
+        Edges.run("P13 all of the greatest budget", HARD, "solve(200) = ?", "conflicts() = 200", "answer() = ?",
+            "isChecked() = true", "solve(200) = n", "conflicts() = 210");
+        Edges.run("P13 one less", HARD, "solve(199) = ?", "conflicts() = 199", "solve(1) = ?", "conflicts() = 200");
     }
 
     private static void answersAndValues() {
@@ -460,6 +473,9 @@ public final class CallEdgeRuns {
             "meanSpread() = " + Edges.ARITHMETIC, "learntShare() = 0.0");
         Edges.run("P30 to P34 go on with each search", "vars(2) clause(1,2) solve(1)", "solve(1) = y",
             "decisions() = 2", "put() = 2", "solve(0) = " + Edges.ARGUMENT, "decisions() = 2", "put() = 2");
+        Edges.run("P30 to P34 all of both searches", HARD + " solve(20)", "conflicts() = 20", "restarts() = 5",
+            "forgotten() = 11", "put() = 87", "solve(20) = n", "conflicts() = 30", "restarts() = 7",
+            "forgotten() = 19", "put() = 141");
         Edges.run("P35 of what is gone too", CUT, "meanSpread() = 2.0", "eliminate(1) = 0", "kinds() = cc",
             "meanSpread() = 2.0", "learntShare() = 0.0", "forgotten() = 0");
     }

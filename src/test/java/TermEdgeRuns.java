@@ -30,6 +30,7 @@ public final class TermEdgeRuns {
         decisionsByActivity();
         reasonsOfRows();
         learntOfOneLiteral();
+        severalThatAreFalse();
         oneOfThePresentLevel();
         literalsOfLevelZero();
         leftOutAtOnce();
@@ -237,6 +238,26 @@ public final class TermEdgeRuns {
             "spreadOf(2) = 1", "decisions() = 8", "put() = 2", "values() = 00011");
     }
 
+    private static void severalThatAreFalse() {
+        // -1 puts 2 by the number 0, and all the others are false then
+        Edges.run("of the same clauses the one with the lowest number",
+            "vars(2) clause(1,2) clause(1,-2) clause(-2,1) clause(1,-2)", "solve(9) = y", "learnt() = 1",
+            "uses() = 1 1 0 0 0", "conflicts() = 1");
+        Edges.run("the parity row has the lowest number",
+            "vars(2) clause(-1,2) odd(1,2) bound(1;1,2) clause(-1,-2) assume(1)", "solve(9) = n", "learnt() = -1",
+            "uses() = 1 1 0 0 0");
+        Edges.run("the bound row has the lowest number",
+            "vars(2) clause(-1,2) bound(1;1,2) clause(-1,-2) odd(1,2) assume(1)", "solve(9) = n", "learnt() = -1",
+            "uses() = 1 1 0 0 0");
+        // the frame 0 has the lowest number, though the conflict of the frame 1 would be one as well
+        Edges.run("the frame of that one", "vars(2) clause(-1,2) clause(-1,-2) push() clause(-2,-1) under(1)",
+            "frames() = 0 0 1 0", "pop() = 1", "learnt() = -1");
+        // 1 -2 3 comes back ahead of 1 -2
+        Edges.run("one that holds again has its number", "vars(3) clause(1,2) clause(1,-2,3) clause(1,-2) eliminate(2)"
+            + " assume(-3) assume(-1)", "solve(9) = n", "learnt() = 1 3", "uses() = 1 1 0 0", "put() = 2",
+            "core() = 2");
+    }
+
     private static void oneOfThePresentLevel() {
         // -1 puts 2, 3 and 4; -3 -4 goes on to -2 -3 and -2, and no more to the clause of 1 2, which put 2
         Edges.run("no more than one literal of the present level", "vars(4) clause(1,2) clause(-2,3) clause(-2,4)"
@@ -247,6 +268,11 @@ public final class TermEdgeRuns {
             + " assume(-2)", "solve(9) = n", "learnt() = 2", "uses() = 1 1 1 0", "core() = 1", "put() = 3");
         Edges.run("the last one was", "vars(12) clause(12,2) clause(2,3) clause(-12,-3) assume(-2)",
             "solve(9) = n", "learnt() = 2", "uses() = 1 1 1 0", "core() = 1", "put() = 3");
+        Edges.run("the first variable brings in the others of the clause that put it",
+            "vars(4) clause(1,2,4) clause(2,3) clause(-1,-3) assume(-4) assume(-2)", "solve(9) = n",
+            "learnt() = 2 4", "uses() = 1 1 1 0", "spreadOf(3) = 2", "activities() = 56 56 56 56");
+        Edges.run("so does the last one", "vars(12) clause(12,2,4) clause(2,3) clause(-12,-3) assume(-4) assume(-2)",
+            "solve(9) = n", "learnt() = 2 4", "uses() = 1 1 1 0", "spreadOf(3) = 2");
     }
 
     private static void literalsOfLevelZero() {
@@ -269,6 +295,9 @@ public final class TermEdgeRuns {
         Edges.run("one that is not in the clause is enough to stay",
             "vars(6) clause(-1,-6,2) pair(5;-1,-2,-4) assume(1) assume(6) assume(4)", "solve(9) = n",
             "learnt() = -4 -2 -1", "spreadOf(3) = 3");
+        Edges.run("also for the first variable",
+            "vars(6) clause(-2,-6,1) pair(5;-1,-2,-4) assume(2) assume(6) assume(4)", "solve(9) = n",
+            "learnt() = -4 -1 -2", "spreadOf(3) = 3");
         Edges.run("one that was put at the level 0 does not matter",
             "vars(6) clause(-1,-6,2) pair(5;-1,-2,-4) clause(6) assume(1) assume(4)", "solve(9) = n",
             "learnt() = -4 -1", "spreadOf(4) = 2");
@@ -328,6 +357,8 @@ public final class TermEdgeRuns {
             + " clause(3) under(1,2)", "learnt() = -2 -1", "frames() = 0 0 4 4", "pop() = 2");
         Edges.run("and so on back", "vars(5) pair(4;-1,-2,-3) clause(-5,3) push() clause(5) under(1,2)",
             "learnt() = -2 -1", "frames() = 0 0 0 1 1", "pop() = 2");
+        Edges.run("and so on back from the first variable", "vars(7) clause(-7,1) pair(3;-1,-2) push() clause(7)"
+            + " under(2)", "learnt() = -2", "frames() = 0 0 0 1 1", "pop() = 2");
         Edges.run("of what put a literal of the level 0 of one that left a literal out",
             "vars(6) pair(5;-1,-2,-4) clause(-1,-6,2) push() clause(6) under(1,4)", "learnt() = -4 -1",
             "frames() = 0 0 0 1 1");
@@ -350,6 +381,11 @@ public final class TermEdgeRuns {
         // 1 and 2 are put at the level 0, 2 by the number 0, and both are left out of the conflict
         Edges.run("of one that is left out, and put another one that is", "vars(4) clause(-1,2) pair(4;-1,-2,3)"
             + " push() clause(1) solve(9)", "learnt() = 3", "frames() = 0 0 0 1 1", "pop() = 2");
+        Edges.run("of the conflict, beside one that left a literal out", "vars(8) clause(-1,2) pair(5;-1,-2,-4,-8)"
+            + " push() clause(8) under(1,4)", "learnt() = -4 -1", "frames() = 0 0 0 1 1", "pop() = 2");
+        // 3 is put by the frame 1 and 1, behind it, by what was learnt in the frame 0; -1 and -3 are both left out
+        Edges.run("of two that are left out, the one put first", "vars(5) pair(2;1) pair(5;-1,-3,4) push() clause(3)"
+            + " solve(200)", "learnt() = 1, 4", "frames() = 0 0 0 0 1 0 1", "pop() = 2");
     }
 
     // ---- restarts and forgetting
@@ -528,6 +564,24 @@ public final class TermEdgeRuns {
         Edges.run("two clauses with the same one", "vars(3) clause(1,2,3) clause(1,2,-3) eliminate(0) eliminate(1)",
             "assume(-1) = 1", "away() = 000", "proof() = t0 t1 d0 d1 t0 t1");
         Edges.run("none of six", script, "clause(7) = 6", "away() = 1111110", "held() = 6");
+        bringingBackInTurn();
+    }
+
+    private static void bringingBackInTurn() {
+        String script = "vars(7) clause(2,7) clause(5,3) clause(7,1) eliminate(1) eliminate(6) eliminate(4)";
+        Edges.run("each with all that follows", script, "clause(2,5) = 3", "away() = 0000000",
+            "proof() = t0 t1 t2 d0 d2 d1 t0 t2 t1 t3");
+        Edges.run("also those that are told behind it", script, "clause(5,2) = 3", "away() = 0000000",
+            "proof() = t0 t1 t2 d0 d2 d1 t0 t2 t1 t3");
+        Edges.run("the first one alone", script, "assume(2) = 1", "away() = 0000100",
+            "proof() = t0 t1 t2 d0 d2 d1 t0 t2");
+        // 2 brings back 1 and 3, by rising numbers, and 1 brings back 7 ahead of 3
+        Edges.run("those in the clauses, by rising numbers", "vars(7) clause(3,2,1) clause(7,1) clause(3,4)"
+            + " clause(5,7) eliminate(1) eliminate(0) eliminate(6) eliminate(2)", "assume(-2) = 1",
+            "away() = 0000000", "proof() = t0 t1 t2 t3 d0 d1 d3 d2 t0 t1 t3 t2");
+        Edges.run("the clauses come back with what was told of them", "vars(3) clause(2,1) clause(1,-2) solve(1)"
+            + " eliminate(1)", "uses() = 0 0", "held() = 2 3", "assume(2) = 1", "held() = 0 1 2 3",
+            "uses() = 1 1 0 0", "frames() = 0 0 0 0", "written(0) = 2 1", "kinds() = cclr");
     }
 
     private static void bringingBackTwelve() {
@@ -560,6 +614,12 @@ public final class TermEdgeRuns {
             "values() = 10", "isModel() = true");
         Edges.run("the one that went last first", "vars(2) clause(1,2) eliminate(1) eliminate(0)", "solve(1) = y",
             "values() = 01", "isModel() = true");
+        // 3 is false, so that 2 3 needs 2; then nothing needs 1
+        Edges.run("the one that went last first, and this one needs it", "vars(3) clause(1,2) clause(2,3)"
+            + " eliminate(0) eliminate(1)", "solve(1) = y", "values() = 010", "isModel() = true");
+        Edges.run("one after the other", "vars(6) clause(1,2) clause(2,3) clause(3,4) clause(4,5) clause(5,6)"
+            + " eliminate(0) eliminate(1) eliminate(2) eliminate(3) eliminate(4)", "solve(1) = y",
+            "values() = 101010", "isModel() = true");
         Edges.run("those that stay away when another one is brought back",
             "vars(6) clause(1,2) clause(3,4) clause(5,6) eliminate(0) eliminate(2) eliminate(4) assume(-3)",
             "away() = 100010", "solve(1) = y", "values() = 100110", "isModel() = true");
