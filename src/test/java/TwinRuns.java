@@ -80,8 +80,10 @@ public final class TwinRuns {
         for (int i = 0; i < variables; i++) {
             call(0, 0, 0);
         }
-        if (kind == 1) {
+        if (kind == 1 && seed % 12 == 1) {
             playHard();
+        } else if (kind == 1) {
+            playHarder();
         }
         for (int i = dice.upTo(14); i > 0 && kind != 1; i--) {
             tell(kind);
@@ -124,6 +126,45 @@ public final class TwinRuns {
             call(4, dice.upTo(1), 0);
         } else if (dice.upTo(1) == 0) {
             call(5, 1 + dice.upTo(1), 0);
+        } else {
+            call(3, 0, 0);
+        }
+    }
+
+    /** Rows of six that few values meet, and searches over and over: the most conflicts. */
+    private void playHarder() {
+        int kinds = dice.upTo(3);
+        int rows = 14 + dice.upTo(26);
+        int below = dice.upTo(rows);
+        for (int i = 0; i < rows; i++) {
+            if (i == below) {
+                call(6, 0, 0);
+            }
+            tellSix(kinds == 0 ? 0 : kinds == 1 ? dice.upTo(1) : dice.upTo(2));
+        }
+        for (int i = 3 + dice.upTo(12); i > 0 && calls < 400; i--) {
+            if (dice.upTo(2) == 0) {
+                call(dice.upTo(2) == 0 ? 10 : 9, literal(), 0);
+            }
+            if (dice.upTo(9) == 0) {
+                call(7, 0, 0);
+            }
+            call(11, dice.upTo(1) == 0 ? 200 : budget(), 0);
+            look(12 + dice.upTo(31));
+        }
+    }
+
+    private void tellSix(int which) {
+        for (int i = 0; twin.typed.size() < 6 && i < 100; i++) {
+            int literal = dice.upTo(1) == 0 ? 1 + dice.upTo(11) : -1 - dice.upTo(11);
+            if (!twin.typed.contains(literal) && !twin.typed.contains(-literal)) {
+                call(1, literal, 0);
+            }
+        }
+        if (which == 0) {
+            call(4, dice.upTo(1), 0);
+        } else if (which == 1) {
+            call(5, 3, 0);
         } else {
             call(3, 0, 0);
         }
