@@ -486,6 +486,10 @@ public final class TermEdgeRuns {
             "isChecked() = true");
         Edges.run("and a tenth one", EIGHT + " teach(12;2,8,10) teach(12;3,9,10)", "forgotten() = 2",
             "kindOf(5) = " + Edges.INDEX, "kindOf(8) = l", "lineNumber(31) = 5");
+        // what taught it is kept aside, so that it has the lowest number of all that hold
+        Edges.run("the first one that holds goes", "vars(12) teach(11;1,2,3) eliminate(10)"
+            + EIGHT.substring(EIGHT.indexOf(TRIPLES[0]) + TRIPLES[0].length()) + " teach(12;2,8,10)",
+            "forgotten() = 1", "constraintAt(0) = 3", "kindOf(3) = r", "written(3) = -1 -2 -3");
     }
 
     private static void whichIsForgotten() {
