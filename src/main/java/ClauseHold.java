@@ -476,11 +476,13 @@ public final class ClauseHold {
         }
 
         void append(int item) {
-            if (count >= items.length) {
+            if (count >= items.length && count < FAR) {
                 items = Arrays.copyOf(items, 2 * count + FIRST_LENGTH);
             }
-            items[count] = item;
-            count++;
+            if (count >= 0 && count < items.length) {
+                items[count] = item;
+                count++;
+            }
         }
 
         int at(int index) {
@@ -1323,7 +1325,7 @@ public final class ClauseHold {
             learntEver++;
             spreadsEver += learnt.spread;
             int slot = Math.floorMod(learntHere, LAST_SPREADS);
-            if (slot < lastSpreads.length) {
+            if (slot >= 0 && slot < lastSpreads.length) {
                 lastSpreads[slot] = learnt.spread;
             }
             learntHere++;

@@ -13,15 +13,59 @@ import java.util.TreeSet;
 /** Looks whether the class has the face of the document and keeps to what LANGUAGE.md leaves of Java. */
 public final class FaceRuns {
     private static final String[] FACE = {
-        "int addVariable()", "int type(int)", "int clear()", "int addClause()", "int addParity(boolean)",
-        "int addBound(int)", "int push()", "int pop()", "int frame()", "int assume(int)", "int dropAssumptions()",
-        "char solve(int)", "char answer()", "boolean valueOf(int)", "int core()", "boolean isForced(int)",
-        "int eliminate(int)", "boolean isEliminated(int)", "int constraints()", "int constraintAt(int)",
-        "char kindOf(int)", "int sizeOf(int)", "int literalAt(int,int)", "int frameOf(int)", "int spreadOf(int)",
-        "int usesOf(int)", "long activityOf(int)", "boolean phaseOf(int)", "int conflicts()", "int decisions()",
-        "int restarts()", "int forgotten()", "long put()", "double meanSpread()", "float learntShare()",
-        "int lines()", "char lineKind(int)", "int lineNumber(int)", "boolean isChecked()", "boolean isModel()",
-        "char answerByTrying()", "int modelsByTrying()", "int writeConstraint(int)", "char textAt(int)"};
+        "int addVariable() throws IllegalStateException",
+        "int type(int) throws IllegalArgumentException, IllegalStateException",
+        "int clear()",
+        "int addClause() throws IllegalStateException",
+        "int addParity(boolean) throws IllegalStateException",
+        "int addBound(int) throws IllegalArgumentException, IllegalStateException",
+        "int push() throws IllegalStateException",
+        "int pop() throws IllegalStateException",
+        "int frame()",
+        "int assume(int) throws IllegalArgumentException, IllegalStateException",
+        "int dropAssumptions()",
+        "char solve(int) throws IllegalArgumentException",
+        "char answer()",
+        "boolean valueOf(int) throws IndexOutOfBoundsException, NoSuchElementException",
+        "int core() throws NoSuchElementException",
+        "boolean isForced(int) throws IllegalArgumentException",
+        "int eliminate(int) throws IndexOutOfBoundsException, IllegalStateException, UnsupportedOperationException",
+        "boolean isEliminated(int) throws IndexOutOfBoundsException",
+        "int constraints()",
+        "int constraintAt(int) throws IndexOutOfBoundsException",
+        "char kindOf(int) throws IndexOutOfBoundsException",
+        "int sizeOf(int) throws IndexOutOfBoundsException",
+        "int literalAt(int,int) throws IndexOutOfBoundsException, NoSuchElementException",
+        "int frameOf(int) throws IndexOutOfBoundsException",
+        "int spreadOf(int) throws IndexOutOfBoundsException, NoSuchElementException",
+        "int usesOf(int) throws IndexOutOfBoundsException",
+        "long activityOf(int) throws IndexOutOfBoundsException",
+        "boolean phaseOf(int) throws IndexOutOfBoundsException",
+        "int conflicts()",
+        "int decisions()",
+        "int restarts()",
+        "int forgotten()",
+        "long put()",
+        "double meanSpread() throws ArithmeticException",
+        "float learntShare() throws ArithmeticException",
+        "int lines()",
+        "char lineKind(int) throws IndexOutOfBoundsException",
+        "int lineNumber(int) throws IndexOutOfBoundsException",
+        "boolean isChecked()",
+        "boolean isModel() throws NoSuchElementException",
+        "char answerByTrying()",
+        "int modelsByTrying()",
+        "int writeConstraint(int) throws IndexOutOfBoundsException",
+        "char textAt(int) throws IndexOutOfBoundsException"};
+    /** The line that stands ahead of each group of calls, and the first call of the group. */
+    private static final String[][] GROUPS = {
+        {"// ---- variables and constraints", "addVariable"},
+        {"// ---- frames and assumptions", "push"},
+        {"// ---- searching", "solve"},
+        {"// ---- elimination", "eliminate"},
+        {"// ---- what holds", "constraints"},
+        {"// ---- figures", "conflicts"},
+        {"// ---- proof and other ways", "lines"}};
     private static final String[] BANNED = {
         "catch", "finally", "synchronized", "assert ", "->", "::", "System.", "Thread", "Random", "Exact(",
         "@Override", "static {", "package ", "String.format", "stream(", "goto"};
@@ -63,23 +107,53 @@ public final class FaceRuns {
             }
         }
         due(want.equals(got), "the public methods are " + got);
-        int constructors = 0;
-        for (Constructor<?> constructor : it.getDeclaredConstructors()) {
-            constructors += isPlain(constructor) ? 1 : 0;
-            due(constructor.getParameterCount() == 0, "the constructor takes nothing");
-        }
-        due(constructors == 1, "one constructor");
+        constructors();
         for (java.lang.reflect.Field field : it.getDeclaredFields()) {
             due(Modifier.isPrivate(field.getModifiers()), field + " is private");
         }
     }
 
-    private static String told(Method method) {
-        List<String> types = new ArrayList<String>();
-        for (Class<?> type : method.getParameterTypes()) {
-            types.add(type.getSimpleName());
+    private static void constructors() {
+        int count = 0;
+        for (Constructor<?> constructor : ClauseHold.class.getDeclaredConstructors()) {
+            count += isPlain(constructor) ? 1 : 0;
+            due(Modifier.isPublic(constructor.getModifiers()), "the constructor is public");
+            due(constructor.getParameterCount() == 0, "the constructor takes nothing");
+            due(constructor.getExceptionTypes().length == 0, "the constructor declares no exception");
         }
-        return method.getReturnType().getSimpleName() + " " + method.getName() + "(" + String.join(",", types) + ")";
+        due(count == 1, "one constructor");
+    }
+
+    private static String told(Method method) {
+        String thrown = names(method.getExceptionTypes(), ", ");
+        return method.getReturnType().getSimpleName() + " " + method.getName() + "("
+            + names(method.getParameterTypes(), ",") + ")" + (thrown.isEmpty() ? "" : " throws " + thrown);
+    }
+
+    private static String names(Class<?>[] types, String between) {
+        List<String> all = new ArrayList<String>();
+        for (Class<?> type : types) {
+            all.add(type.getSimpleName());
+        }
+        return String.join(between, all);
+    }
+
+    /** The calls stand in the order of the document, and each group behind its line. */
+    private static void groups(String text) {
+        int at = 0;
+        for (String call : FACE) {
+            String name = call.substring(call.indexOf(' ') + 1, call.indexOf('(') + 1);
+            int next = text.indexOf("    public " + call.substring(0, call.indexOf(' ')) + " " + name);
+            due(next > at, "in the order of the document: " + call);
+            at = next;
+        }
+        for (String[] group : GROUPS) {
+            int line = text.indexOf("    " + group[0] + "\n");
+            int first = text.indexOf(" " + group[1] + "(");
+            due(line > 0 && line < first, group[0] + " stands ahead of " + group[1]);
+            due(line > 0 && text.substring(line, Math.max(line, first)).split("public ").length == 2,
+                group[0] + " stands right ahead of " + group[1]);
+        }
     }
 
     private static void insides() {
@@ -108,6 +182,7 @@ public final class FaceRuns {
         for (String banned : BANNED) {
             due(!text.contains(banned), "the source has: " + banned);
         }
+        groups(text);
         int length = 0;
         for (String line : text.split("\n")) {
             for (int i = 0; i < line.length(); i++) {
