@@ -515,7 +515,7 @@ public final class ClauseHold {
         boolean hasVariable(int variable) {
             boolean has = false;
             for (int i = 0; i < count; i++) {
-                has |= variableOf(at(i)) == variable;
+                has = has || variableOf(at(i)) == variable;
             }
             return has;
         }
@@ -662,7 +662,7 @@ public final class ClauseHold {
             for (int i = checked; i >= 0 && i < rows.size(); i++) {
                 Constraint row = rows.get(i);
                 if (kinds.at(i) == 'a') {
-                    isRight &= follows(row);
+                    isRight = isRight && follows(row);
                 }
                 if (kinds.at(i) == 'd') {
                     removeFrom(standing, row);
@@ -791,7 +791,7 @@ public final class ClauseHold {
             boolean inRow = false;
             for (int i = 0; i < book.held.size(); i++) {
                 Constraint row = book.held.get(i);
-                inRow |= !row.isClause() && (row.all() & bit) != 0;
+                inRow = inRow || !row.isClause() && (row.all() & bit) != 0;
                 unlearnt += row.kind == 'l' ? 0 : 1;
             }
             ArrayList<Constraint> with = unlearntWith(bit, 0);
@@ -926,7 +926,7 @@ public final class ClauseHold {
             boolean needs = false;
             for (int i = 0; i < aside.size(); i++) {
                 Constraint row = aside.get(i);
-                needs |= row.asideWith == variable && row.isFalse(yes, ~yes);
+                needs = needs || row.asideWith == variable && row.isFalse(yes, ~yes);
             }
             return needs;
         }
@@ -1075,7 +1075,7 @@ public final class ClauseHold {
         boolean leansOn(Constraint row) {
             boolean leans = false;
             for (int i = 0; i < count; i++) {
-                leans |= reasonOf(variableAt(i)) == row;
+                leans = leans || reasonOf(variableAt(i)) == row;
             }
             return leans;
         }
@@ -1143,7 +1143,7 @@ public final class ClauseHold {
             raiseHome(row);
             boolean isIn = false;
             for (int i = 0; i < used.size(); i++) {
-                isIn |= used.get(i) == row;
+                isIn = isIn || used.get(i) == row;
             }
             if (!isIn) {
                 used.add(row);
