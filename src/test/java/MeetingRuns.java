@@ -1,5 +1,5 @@
 /**
- * Runs in which several sentences of the document meet; each one is worked out by hand beside its rows. What a row
+ * Runs in which several sentences of the document meet; what goes on in each one is told beside its rows. What a row
  * means is told in Edges.
  */
 public final class MeetingRuns {
